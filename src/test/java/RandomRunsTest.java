@@ -21,10 +21,13 @@ public final class RandomRunsTest {
     private final PlainYears due = new PlainYears();
     private final List<String> log = new ArrayList<>();
     // Some runs are about some of the calls alone, so that they come far with these.
-    private final int[] weights = new int[CALLS.length + 3];
+    private final int[] weights = new int[CALLS.length + 5];
+
+    private final int wildness;
 
     private RandomRunsTest(long seed) {
         random = new Random(seed);
+        wildness = seed % 10 == 0 ? 3 : 30;
         for (int i = 0; i < weights.length; i++) {
             weights[i] = 1 + random.nextInt(random.nextInt(4) == 0 ? 12 : 3);
         }
@@ -32,8 +35,9 @@ public final class RandomRunsTest {
         weight("word kfp", 4 + random.nextInt(30));
         weight("stance Ppy", 10);
         weight("made PPp", 10);
-        weight("live l", random.nextInt(12));
+        weight("live l", random.nextInt(30));
         weight("near PPn", random.nextInt(5));
+        weight("image ", random.nextInt(3));
         weight("minds 22", 1);
         weight("restore ", random.nextInt(2));
         weight("sheet sBN", 2);
@@ -58,7 +62,7 @@ public final class RandomRunsTest {
     }
 
     private int draw(char sort) {
-        if (below(30) == 0) {
+        if (below(wildness) == 0) {
             return wild();
         }
         int places = due.all.places;
@@ -130,11 +134,13 @@ public final class RandomRunsTest {
         "(s=0)&(c=0)|(s=0)*2*(k=1)", "1", "2", "(y%3=0)*(k%7)", "k=1+1", "y%7", "(c=y)*5+(y=4)*6", "s+1", "c%4+1",
         "2*(k=1)+3*(s=2)+(s=0)*(y%5=0)*(k>2)"
     };
+    private static final String[] RULES = {"o<t", "r>0", "r<0|r=0&o<t", "a<b", "a+o<b+t", "(o<t)=(a>b)", "o%2=0", "!r"};
 
     private void feedText() throws ReflectiveOperationException {
         int use = below(8);
         String names = use < 6 ? "scky" : "otrab";
-        String text = use < 6 && below(2) == 0 ? ORDERS[below(ORDERS.length)] : randomText(0, names);
+        String[] common = use < 6 ? ORDERS : RULES;
+        String text = below(2) == 0 ? common[below(common.length)] : randomText(0, names);
         StringBuilder bytes = new StringBuilder(text.length() > 50 ? text.substring(0, 50) : text);
         if (below(4) == 0 && bytes.length() > 0) {
             bytes.setCharAt(below(bytes.length()), "()!|&<=>+-*/%0123456789sckyotrab ".charAt(below(33)));
@@ -168,6 +174,49 @@ public final class RandomRunsTest {
         call("check", place, pact);
     }
 
+    private int pair() {
+        int from = below(due.all.places);
+        int to = below(due.all.places);
+        return from == to ? draw('f') : 10 * from + to;
+    }
+
+    private void sheetOfWords() throws ReflectiveOperationException {
+        int threes = below(5);
+        int bits = 8 << below(3);
+        int sheet = below(4);
+        call("sheet", sheet, bits, 3 * threes + below(3));
+        for (int i = 0; i < threes; i++) {
+            call("put", sheet, 3 * i, (bits == 32 ? 0 : random.nextInt() << bits) + below(7));
+            call("put", sheet, 3 * i + 1, pair());
+            call("put", sheet, 3 * i + 2, below(10) == 0 ? 4 : below(4));
+        }
+        if (below(2) == 0) {
+            int other = below(4);
+            call("sheet", other, bits, 3 * threes + 3 + below(3));
+            call("move", sheet, 0, other, 3 * below(2), 3 * threes);
+            call("move", other, 3, other, below(4), Math.max(0, 3 * threes - 3));
+            call("words", other);
+        }
+        call("words", sheet);
+    }
+
+    private void talk() throws ReflectiveOperationException {
+        int pair = pair();
+        int back = pair % 10 * 10 + pair / 10;
+        int pact = below(4);
+        for (int i = below(6); i >= 0; i--) {
+            int kind = below(3) == 0 ? below(7) : 1 + below(2);
+            call("word", kind, below(2) == 0 ? pair : back, pact);
+            call("stance", pair / 10, pact, due.all.now);
+            call("stance", pair % 10, pact, due.all.now);
+            if (below(2) == 0) {
+                call("live", 1 + below(4));
+            }
+        }
+        call("made", pair / 10, pair % 10, pact);
+        call("knows", pair / 10, pact, Math.min(399, due.all.now + 9));
+    }
+
     private void callOne() throws ReflectiveOperationException {
         int sum = 0;
         for (int w : weights) {
@@ -185,6 +234,10 @@ public final class RandomRunsTest {
             feedWild();
         } else if (i == CALLS.length + 2) {
             tellAndCheck();
+        } else if (i == CALLS.length + 3) {
+            sheetOfWords();
+        } else if (i == CALLS.length + 4) {
+            talk();
         } else {
             String name = CALLS[i].substring(0, CALLS[i].indexOf(' '));
             String sorts = CALLS[i].substring(name.length() + 1);
@@ -197,10 +250,15 @@ public final class RandomRunsTest {
     }
 
     private void run() throws ReflectiveOperationException {
-        for (int i = 0; i < 2; i++) {
+        int places = 2 + below(5);
+        int far = below(2) == 0 ? 4 : 30;
+        for (int i = 0; i < places; i++) {
             call("place");
         }
-        call("near", 0, 1, 1 + below(9));
+        call("near", 0, 1, 1 + below(far));
+        for (int i = below(12); i > 0; i--) {
+            call("near", draw('P'), draw('P'), below(far));
+        }
         while (log.size() < CALLS_EACH) {
             callOne();
         }
