@@ -21,6 +21,7 @@ public final class DrawsToToldTest {
         rows();
         moves();
         images();
+        imagesOfWords();
         telling();
         counting();
         errors();
@@ -299,6 +300,79 @@ public final class DrawsToToldTest {
             seed(4) = -1770082073
             restore() = 0
             count(8) = -1770082073
+            """);
+    }
+
+    private static void imagesOfWords() {
+        String before = """
+            place() = 0
+            place() = 1
+            place() = 2
+            near(0, 1, 4) = 0
+            near(1, 2, 1) = 0
+            work(1, 2) = 0
+            work(5, 9) = 1
+            pays(73, 9) = 0
+            tell(0) = 1
+            tell(1) = 2
+            image() = 1
+            """;
+        StringBuilder lines = new StringBuilder(before);
+        // Other WORDS, WORKS, numbers that wait take the places of those that come after the IMAGE.
+        lines.append("word(1, 1, 0) = 0\nword(3, 21, 3) = 1\nlive(1) = 1\nword(0, 12, 0) = 2\nlive(3) = 4\n");
+        lines.append("rule(0, 9) = 20\nword(2, 10, 0) = 3\nimage() = 2\nrestore() = 4\nrestore() = 4\n");
+        lines.append("near(0, 1, 9) = 4\nnear(1, 2, 3) = 1\nplace() = 3\nwork(7, 7) = 2\npays(73, 1) = 9\n");
+        lines.append("lose(3) = 1\nword(6, 1, 1) = 4\ncheck(0, 0) = 1\ntell(7) = 1\n");
+        lines.append("restore() = 4\n");
+        int[][] due = {{1, 0, 1, 0, 0, 4, 20, 1}, {3, 2, 1, 3, 0, 1, 20, 1}, {0, 1, 2, 0, 1, 2, 20, 1}, {2, 1, 0, 0, 4, 8, 9, 2}};
+        StringBuilder words = new StringBuilder();
+        for (int word = 0; word < due.length; word++) {
+            for (int what = 0; what < 8; what++) {
+                words.append("ofWord(" + word + ", " + what + ") = " + due[word][what] + "\n");
+            }
+        }
+        Script.run("40, 41 WORDS", lines + words.toString() + """
+            ofWord(4, 0) = BEYOND
+            count(6) = 2
+            # numbers 0 and 1 wait, but 0 and 2 are due
+            check(2, 0) = 1
+            near(0, 1, 4) = 4
+            near(1, 2, 1) = 1
+            blind(1, 58) = 1
+            blind(1, 59) = 0
+            edge(1, 9) = 6
+            edge(0, 9) = 5
+            pays(73, 0) = 9
+            live(4) = 8
+            made(0, 1, 0) = 8
+            tell(3) = 1
+            check(0, 0) = 0
+            restore() = 4
+            tell(5) = 3
+            check(2, 0) = 1
+            """);
+        Script.run("41 into a state with other WORDS", """
+            place() = 0
+            place() = 1
+            near(0, 1, 2) = 0
+            rule(0, 4) = 20
+            word(1, 1, 2) = 0
+            live(2) = 2
+            word(2, 10, 2) = 1
+            image() = 1
+            restore() = 2
+            live(3) = 5
+            image() = 2
+            word(3, 1, 2) = 2
+            restore() = 5
+            ofWord(2, 0) = BEYOND
+            word(4, 10, 1) = 2
+            ofWord(2, 0) = 4
+            ofWord(2, 1) = 1
+            ofWord(2, 3) = 1
+            stance(0, 2, 5) = 2
+            stance(1, 2, 5) = 2
+            made(0, 1, 2) = 4
             """);
     }
 

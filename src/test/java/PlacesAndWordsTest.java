@@ -25,6 +25,7 @@ public final class PlacesAndWordsTest {
         yeses();
         pacts();
         depths();
+        sixPlaces();
         Script.end();
     }
 
@@ -487,6 +488,7 @@ public final class PlacesAndWordsTest {
             }
         }
         Script.run("14 what is asked", THREE + """
+            stance(2, 3, 0) = 0
             stance(3, 0, 0) = BEYOND
             stance(-1, 0, 0) = BEYOND
             stance(0, 4, 0) = BEYOND
@@ -651,12 +653,19 @@ public final class PlacesAndWordsTest {
             place() = 0
             place() = 1
             near(0, 1, 5) = 0
-            word(5, 1, 3) = 0
-            word(1, 10, 3) = 1
+            word(5, 1, 2) = 0
+            word(5, 10, 2) = 1
+            made(0, 1, 2) = 0
+            came(0, 2, 0) = 0
+            word(5, 1, 3) = 2
+            word(1, 10, 3) = 3
             live(5) = 5
-            word(2, 1, 3) = 2
+            word(2, 1, 3) = 4
             live(5) = 10
             made(0, 1, 3) = 10
+            stance(1, 3, 0) = 1
+            stance(0, 2, 0) = 3
+            made(0, 1, 2) = 0
             """);
     }
 
@@ -714,6 +723,70 @@ public final class PlacesAndWordsTest {
             came(0, 0, 400) = BEYOND
             came(0, 0, -1) = BEYOND
             told(1) = 12
+            """);
+    }
+
+    private static void sixPlaces() {
+        StringBuilder lines = new StringBuilder();
+        for (int i = 0; i < 6; i++) {
+            lines.append("place() = ").append(i).append('\n');
+        }
+        for (int i = 1; i < 6; i++) {
+            lines.append("near(0, ").append(i).append(", ").append(i).append(") = 0\n");
+        }
+        int word = 0;
+        for (int from = 0; from < 6; from++) {
+            for (int to = 0; to < 6; to++) {
+                int ft = 10 * from + to;
+                if (from != to) {
+                    lines.append("word(4, " + ft + ", 2) = " + word + "\n");
+                    lines.append("ofWord(" + word + ", 1) = " + from + "\n");
+                    lines.append("ofWord(" + word + ", 2) = " + to + "\n");
+                    lines.append("ofWord(" + word + ", 5) = " + (from + to) + "\n");
+                    lines.append("soon(" + ft + ", 1, 0) = " + (from + to) + "\n");
+                    lines.append("goods(" + ft + ", 1000, 99) = 1\n");
+                    lines.append("route(" + from + ", " + to + ", -1) = " + (from * to == 0 ? 2 : 3) + "\n");
+                    word++;
+                } else {
+                    lines.append("word(4, " + ft + ", 2) = BEYOND\n");
+                }
+            }
+        }
+        Script.run("all pairs of six", lines + """
+            word(4, 6, 0) = BEYOND
+            word(4, 60, 0) = BEYOND
+            word(4, 49, 0) = BEYOND
+            # what COMES to 3: 3 from 0 in 3, then from 1, 2, 4, 5
+            live(20) = 20
+            came(3, 2, 3) = 1
+            came(3, 2, 20) = 5
+            tell(2) = 1
+            tell(7) = 2
+            tell(12) = 3
+            tell(23) = 4
+            tell(28) = 5
+            check(3, 2) = 0
+            """);
+        Script.run("one COMES ahead of those sent before", """
+            place() = 0
+            place() = 1
+            near(0, 1, 9) = 0
+            word(0, 1, 0) = 0
+            word(1, 1, 0) = 1
+            near(0, 1, 5) = 9
+            word(2, 1, 0) = 2
+            word(6, 1, 0) = 3
+            near(0, 1, 1) = 5
+            word(4, 1, 0) = 4
+            live(30) = 30
+            tell(4) = 1
+            tell(2) = 2
+            tell(3) = 3
+            tell(0) = 4
+            tell(1) = 5
+            check(1, 0) = 0
+            came(1, 0, 5) = 2
+            came(1, 0, 7) = 3
             """);
     }
 }

@@ -298,6 +298,38 @@ public final class TextsAndYearsTest {
             ofWord(7, 4) = 5
             ofWord(7, 5) = 8
             """);
+        Script.run("21 no AIM at first, and none of other PLACES", """
+            place() = 0
+            place() = 1
+            place() = 2
+            place() = 3
+            place() = 4
+            place() = 5
+            near(0, 1, 1) = 0
+            near(4, 5, 2) = 0
+            tape(1)
+            text(1) = 1
+            tape(2)
+            text(4) = 1
+            tape(3)
+            text(5) = 1
+            live(1) = 1
+            count(2) = 0
+            aim(4, 53) = 1
+            aim(1, 0) = 1
+            live(1) = 2
+            count(2) = 2
+            ofWord(0, 0) = 1
+            ofWord(0, 1) = 1
+            ofWord(0, 2) = 0
+            ofWord(0, 3) = 0
+            ofWord(1, 0) = 2
+            ofWord(1, 1) = 4
+            ofWord(1, 2) = 5
+            ofWord(1, 3) = 3
+            ofWord(1, 4) = 1
+            ofWord(1, 5) = 3
+            """);
         Script.run("21 s counts what was sent in the same YEAR", """
             place() = 0
             place() = 1

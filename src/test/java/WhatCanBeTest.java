@@ -13,6 +13,7 @@ public final class WhatCanBeTest {
         soonest();
         chances();
         payments();
+        eachPayment();
         works();
         twoMinds();
         generations();
@@ -179,6 +180,18 @@ public final class WhatCanBeTest {
             """);
     }
 
+    private static void eachPayment() {
+        StringBuilder lines = new StringBuilder();
+        for (int round = 0; round < 2; round++) {
+            for (int at = 0; at < 80; at++) {
+                boolean is = at % 10 <= 3;
+                int was = round == 0 ? 0 : at;
+                lines.append("pays(" + at + ", " + at + ") = " + (is ? was : "BEYOND") + "\n");
+            }
+        }
+        Script.run("25 each has its own", lines.toString());
+    }
+
     private static void works() {
         Script.run("28, 29, 30", """
             blind(0, 11) = BEYOND
@@ -207,6 +220,8 @@ public final class WhatCanBeTest {
             blind(2, 99) = 0
             blind(3, 99) = 1
             blind(3, 89) = 0
+            blind(7, 78) = 1
+            blind(7, 68) = 0
             blind(8, 11) = BEYOND
             blind(-1, 11) = BEYOND
             blind(0, 10) = BEYOND
