@@ -1002,6 +1002,7 @@ public final class NineYears {
             nextArrival = 0;
             nextSent = 0;
             Arrays.fill(offeredUpTo, -1);
+            seek();
         }
 
         int standsIn(int ofPlace, int aboutPact, int year) {
@@ -1023,7 +1024,6 @@ public final class NineYears {
 
         /** The next YEAR in which a WORD COMES to it or is sent by it, NEVER if there is none. */
         int nextYear() {
-            seek();
             int comes = hasArrival() ? letters.comes[letters.arriving[nextArrival]] : NEVER;
             int sent = hasSent() ? letters.years[nextSent] : NEVER;
             return Math.min(comes, sent);
@@ -1032,7 +1032,6 @@ public final class NineYears {
         /** A YEAR goes by, none being left out in which a WORD COMES or is sent. */
         void pass(int year) {
             endOver(year);
-            seek();
             for (int i = 0; i < LETTERS && hasArrival(); i++) {
                 int word = letters.arriving[nextArrival];
                 if (letters.comes[word] > year) {
@@ -1060,6 +1059,7 @@ public final class NineYears {
             return nextSent < letters.many;
         }
 
+        /** On to the next WORDS that are about its PACT and to it, or by it. */
         private void seek() {
             while (nextArrival < letters.arrivals && !letters.isFor(letters.arriving[nextArrival], place, pact)) {
                 nextArrival++;

@@ -31,7 +31,7 @@ public final class PlacesAndWordsTest {
 
     private static void news() {
         Script.run("1 a new object", """
-            7x count(0) = 0
+            count(0) = 0
             count(1) = 0
             count(2) = 0
             count(3) = 0
@@ -105,7 +105,6 @@ public final class PlacesAndWordsTest {
 
     private static void routes() {
         Script.run("5 ROUTE", """
-            6x rule(1, 2) = 2
             place() = 0
             place() = 1
             place() = 2
@@ -317,7 +316,6 @@ public final class PlacesAndWordsTest {
             place() = 0
             place() = 1
             near(0, 1, 30) = 0
-            7x live(0) = BEYOND
             live(50) = 50
             live(50) = 100
             live(50) = 150

@@ -154,6 +154,10 @@ public final class RandomRunsTest {
             call("feed", word, n);
         }
         call("text", use);
+        if (use < due.all.places && below(2) == 0) {
+            call("aim", use, 10 * below(due.all.places) + (below(2) == 0 ? 0 : below(4)));
+            call("live", 1 + below(3));
+        }
     }
 
     private void feedWild() throws ReflectiveOperationException {

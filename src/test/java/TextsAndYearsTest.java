@@ -298,6 +298,24 @@ public final class TextsAndYearsTest {
             ofWord(7, 4) = 5
             ofWord(7, 5) = 8
             """);
+        Script.run("21 the first WORD of all, and the next", """
+            place() = 0
+            place() = 1
+            near(0, 1, 3) = 0
+            aim(1, 0) = 1
+            tape((k=1)*(c=1)*(s=0)*2)
+            text(1) = 1
+            word(1, 1, 0) = 0
+            live(3) = 3
+            count(2) = 1
+            live(1) = 4
+            count(2) = 2
+            ofWord(1, 0) = 2
+            ofWord(1, 4) = 3
+            live(9) = 13
+            count(2) = 2
+            made(0, 1, 0) = 6
+            """);
         Script.run("21 no AIM at first, and none of other PLACES", """
             place() = 0
             place() = 1
