@@ -34,8 +34,8 @@ public final class NineYears {
     private final World world;
     private final World kept;
     private int images;
-    private final Standing one;
-    private final Standing other;
+    private final Standing standing;
+    private final Standing otherStanding;
     private final Reader reader;
     private final int[] names;
     private final int[] stack;
@@ -47,8 +47,8 @@ public final class NineYears {
         world = new World();
         kept = new World();
         images = 0;
-        one = new Standing(world.letters);
-        other = new Standing(world.letters);
+        standing = new Standing(world.letters);
+        otherStanding = new Standing(world.letters);
         reader = new Reader();
         names = new int[5];
         stack = new int[TAPE];
@@ -195,7 +195,7 @@ public final class NineYears {
         if (!isPlace(place) || !isPact(pact) || isOutside(year, 0, world.now)) {
             return refuse(BEYOND);
         }
-        return one.standsIn(place, pact, year);
+        return standing.standsIn(place, pact, year);
     }
 
     public int made(int one, int other, int pact) {
@@ -607,17 +607,17 @@ public final class NineYears {
 
     /** The first YEAR up to NOW in which both are bound; -1 if there is none. */
     private int firstBound(int first, int second, int pact) {
-        one.begin(first, pact);
-        other.begin(second, pact);
+        standing.begin(first, pact);
+        otherStanding.begin(second, pact);
         // Only a WORD that COMES or is sent makes a STANCE 2 or more, so other YEARS need no look.
         for (int i = 0; i <= 2 * LETTERS; i++) {
-            int year = Math.min(one.nextYear(), other.nextYear());
+            int year = Math.min(standing.nextYear(), otherStanding.nextYear());
             if (year > world.now) {
                 return -1;
             }
-            one.pass(year);
-            other.pass(year);
-            if (one.isBound() && other.isBound()) {
+            standing.pass(year);
+            otherStanding.pass(year);
+            if (standing.isBound() && otherStanding.isBound()) {
                 return year;
             }
         }
@@ -640,7 +640,7 @@ public final class NineYears {
         int ft = 10 * place + at / 10;
         int pact = at % 10;
         Letters letters = world.letters;
-        nameAll(one.standsIn(place, pact, world.now), letters.arrived(place, pact, world.now),
+        nameAll(standing.standsIn(place, pact, world.now), letters.arrived(place, pact, world.now),
             letters.latestKind(place, pact, world.now), world.now, 0);
         int kind = world.texts[place].reckon(names, stack);
         if (kind != WORD && faultOfWord(kind, ft, pact) == 0) {
