@@ -1,113 +1,127 @@
-import java.lang.reflect.InvocationTargetException;
-import java.lang.reflect.Method;
+import java.util.ArrayList;
+import java.util.List;
 
 /**
  * Calls and the answers that are due, a line each: "way(0, 1) = 9". An answer may be BEYOND, NONE,
- * STATE, FULL or KIND; a line of # is a comment; tape(o<t) feeds a text to THE TAPE, as feed() takes
- * it, and has no answer; 3x at the front of a line makes the call three times, each with that answer.
+ * STATE, FULL or KIND, or a number; a number with ! behind it is an ERROR, too. A line of # is a
+ * comment; tape(o&lt;t) feeds a text to THE TAPE, as feed() takes it, and has no answer; 3x at the front
+ * of a line makes the call three times, each with that answer.
+ *
+ * <p>Of each line it is also held that told() has gone up as its answer says, and of each ERROR that
+ * it has changed nothing else: an object with that call and one without it answer all Probes alike.
  */
 final class Script {
+    // An object is used for at most 512 calls: this leaves room for the longest of the Probes.
+    private static final int MOST_CALLS = 350;
+
     private static int wrong = 0;
     private static int lines = 0;
+    private static int refusals = 0;
+    private static final List<String[]> QUOTES = new ArrayList<>();
 
     private Script() { }
 
+    /** Runs a script on a new object; its name is a sentence of that section of the document, or a part of one. */
+    static void edge(String section, String sentence, String script) {
+        QUOTES.add(new String[] {section, sentence});
+        run(section + " " + sentence, script);
+    }
+
+    /** The sections and sentences of all edges so far. */
+    static List<String[]> quotes() {
+        return QUOTES;
+    }
+
     /** Runs a script on a new object. */
     static void run(String name, String script) {
-        NineYears years = new NineYears();
-        for (String line : script.split("\n")) {
-            String call = line.strip();
-            if (!call.isEmpty() && !call.startsWith("#")) {
-                try {
-                    runLine(years, name, call);
-                } catch (ReflectiveOperationException | RuntimeException e) {
-                    wrong++;
-                    System.out.println(name + ": " + call + " failed: " + e + " " + e.getCause());
-                }
+        List<Step> steps = new ArrayList<>();
+        try {
+            for (String line : script.split("\n")) {
+                Step.read(line.strip(), steps);
+            }
+        } catch (IllegalArgumentException e) {
+            fail(name, e.getMessage());
+            return;
+        }
+        if (steps.size() > MOST_CALLS) {
+            fail(name, "has " + steps.size() + " calls");
+        }
+        checkAnswers(name, steps);
+        checkTold(name, steps);
+        for (int i = 0; i < steps.size(); i++) {
+            if (steps.get(i).isError()) {
+                refusals++;
+                checkNothingElse(name, steps, i);
             }
         }
     }
 
     /** Ends the test: with exit code 1 if an answer was not the one that is due. */
     static void end() {
-        System.out.println(lines + " calls, " + wrong + " answers not as due");
+        System.out.println(lines + " calls, " + refusals + " of them refused, " + wrong + " not as due");
         if (wrong != 0 || lines == 0) {
             System.exit(1);
         }
     }
 
-    private static void runLine(NineYears years, String name, String line) throws ReflectiveOperationException {
-        if (line.startsWith("tape(")) {
-            tape(years, line.substring(5, line.lastIndexOf(')')));
-            return;
-        }
-        int times = 1;
-        String call = line;
-        if (Character.isDigit(line.charAt(0))) {
-            times = Integer.parseInt(line.substring(0, line.indexOf('x')));
-            call = line.substring(line.indexOf('x') + 1).strip();
-        }
-        int end = call.lastIndexOf('=');
-        long due = number(call.substring(end + 1).strip());
-        for (int i = 0; i < times; i++) {
-            long got = call(years, call.substring(0, end).strip());
+    private static void fail(String name, String what) {
+        wrong++;
+        System.out.println(name + ": " + what);
+    }
+
+    private static void checkAnswers(String name, List<Step> steps) {
+        NineYears years = new NineYears();
+        for (Step step : steps) {
+            long got = step.call().on(years);
             lines++;
-            if (got != due) {
-                wrong++;
-                System.out.println(name + ": " + call + ", but it answered " + got);
+            if (!step.isDue(got)) {
+                fail(name, step.text() + ", but it answered " + got);
             }
         }
     }
 
-    private static long number(String text) {
-        switch (text) {
-            case "BEYOND": return -1000001;
-            case "NONE": return -1000002;
-            case "STATE": return -1000003;
-            case "FULL": return -1000004;
-            case "KIND": return -1000005;
-            case "MAX": return Integer.MAX_VALUE;
-            case "MIN": return Integer.MIN_VALUE;
-            default: return Long.parseLong(text);
+    private static void checkTold(String name, List<Step> steps) {
+        NineYears years = new NineYears();
+        long[] due = new long[6];
+        for (Step step : steps) {
+            step.call().on(years);
+            if (step.isError()) {
+                due[(int) (-1000000 - step.due())]++;
+            }
+            for (int k = 1; k <= 5; k++) {
+                if (years.told(k) != due[k]) {
+                    fail(name, step.text() + ": then told(" + k + ") is " + years.told(k) + ", due is " + due[k]);
+                    due[k] = years.told(k);
+                }
+            }
         }
     }
 
-    private static long call(NineYears years, String call) throws ReflectiveOperationException {
-        String name = call.substring(0, call.indexOf('('));
-        String inside = call.substring(call.indexOf('(') + 1, call.lastIndexOf(')')).strip();
-        String[] texts = inside.isEmpty() ? new String[0] : inside.split(",");
-        for (Method method : NineYears.class.getMethods()) {
-            if (method.getName().equals(name) && method.getParameterCount() == texts.length) {
-                return invoke(years, method, texts);
+    private static void checkNothingElse(String name, List<Step> steps, int at) {
+        for (int probe = 0; probe < Probes.MANY; probe++) {
+            NineYears without = after(steps, at);
+            NineYears with = after(steps, at);
+            steps.get(at).call().on(with);
+            if (steps.get(at).call().name().equals("check")) {
+                // Whatever it answers, none wait then.
+                without.check(0, 0);
+            }
+            List<String> answers = Probes.ask(probe, without);
+            List<String> answersWith = Probes.ask(probe, with);
+            for (int i = 0; i < answers.size(); i++) {
+                if (!answers.get(i).equals(answersWith.get(i))) {
+                    fail(name, steps.get(at).text() + " changed " + answers.get(i) + " to " + answersWith.get(i));
+                    break;
+                }
             }
         }
-        throw new NoSuchMethodException(call);
     }
 
-    private static long invoke(NineYears years, Method method, String[] texts)
-        throws IllegalAccessException, InvocationTargetException {
-        Object[] args = new Object[texts.length];
-        for (int i = 0; i < args.length; i++) {
-            long number = number(texts[i].strip());
-            if (method.getParameterTypes()[i] == int.class) {
-                args[i] = (int) number;
-            } else {
-                args[i] = number;
-            }
+    private static NineYears after(List<Step> steps, int end) {
+        NineYears years = new NineYears();
+        for (int i = 0; i < end; i++) {
+            steps.get(i).call().on(years);
         }
-        return ((Number) method.invoke(years, args)).longValue();
-    }
-
-    private static void tape(NineYears years, String text) {
-        for (int at = 0; at < text.length(); at += 8) {
-            int n = Math.min(8, text.length() - at);
-            long word = 0;
-            for (int i = n - 1; i >= 0; i--) {
-                word = word << 8 | text.charAt(at + i) & 255;
-            }
-            if (years.feed(word, n) < 0) {
-                throw new IllegalArgumentException("THE TAPE is full");
-            }
-        }
+        return years;
     }
 }
