@@ -22,6 +22,8 @@ public final class EdgesOfImagesTest {
             {"place() = 4", "count(1) = 4", "way(4, 4) = BEYOND"},
             {"near(0, 1, 9) = 2", "way(0, 1) = 2", "near(1, 0, 5) = 2"},
             {"near(0, 3, 1) = 0", "way(0, 3) = NONE", "near(0, 3, 1) = 0"},
+            {"near(1, 2, 9) = 3", "way(2, 1) = 3", "way(1, 2) = 3", "near(2, 1, 5) = 3"},
+            {"near(2, 3, 9) = 0", "way(2, 3) = NONE", "way(3, 2) = NONE", "near(2, 3, 5) = 0"},
             {"rule(0, 5) = 12", "rule(0, 12) = 12"},
             {"rule(1, 9) = 3", "rule(1, 3) = 3"},
             {"loss(29) = 13", "loss(13) = 13"},
@@ -30,6 +32,7 @@ public final class EdgesOfImagesTest {
             {"live(1) = 3", "count(0) = 2", "stance(0, 0, 3) = BEYOND"},
             {"text(5) = -12", "count(5) = 2", "feed(50, 1) = 3", "text(5) = 1", "law(5, 0, 0) = 3"},
             {"feed(0, 8) = 10", "count(5) = 2", "feed(50, 1) = 3", "text(5) = 1", "law(5, 0, 0) = 3"},
+            {"text(5) = -12\nfeed(14649, 2) = 2", "count(5) = 2", "feed(50, 1) = 3", "text(5) = 1", "law(5, 0, 0) = 3"},
             {"aim(0, -1) = 1", "live(1) = 3", "ofWord(5, 1) = 0", "ofWord(6, 1) = 1"},
             {"aim(0, 23) = 1", "live(1) = 3", "ofWord(5, 2) = 1", "ofWord(5, 3) = 0"},
             {"aim(2, 0) = 1", "live(2) = 4", "ofWord(5, 1) = 0", "ofWord(6, 1) = 1", "ofWord(7, 1) = 0"},
@@ -40,6 +43,8 @@ public final class EdgesOfImagesTest {
             {"seed(3) = 1", "seed(4) = 1"},
             {"tell(4) = 2", "count(6) = 1", "check(1, 0) = 0"},
             {"check(1, 0) = 0", "count(6) = 1", "check(1, 0) = 0"},
+            {"check(1, 0) = 0\ntell(9) = 1", "count(6) = 1", "check(1, 0) = 0"},
+            {"check(1, 0) = 0\ntell(9) = 1\ntell(9) = 2", "tell(9) = 2", "check(1, 0) = 2"},
         };
         for (String[] thing : things) {
             StringBuilder lines = new StringBuilder(Worlds.RICH + "seed(1) = " + zOfRich() + "\nimage() = 2\n" + thing[0] + "\nrestore() = 2\n");

@@ -120,6 +120,14 @@ public final class EdgesOfPlacesTest {
             way(0, 5) = 29
             way(1, 5) = 58
             """);
+        for (int by = 0; by < 6; by++) {
+            int one = by == 0 ? 1 : 0;
+            int other = by == 5 ? 4 : 5;
+            Script.edge("Terms 1", "the least sum of NEAR ones, one behind the other", SIX
+                + "near(" + one + ", " + by + ", 2) = 0\nnear(" + other + ", " + by + ", 3) = 0\n"
+                + "way(" + one + ", " + other + ") = 5\nway(" + other + ", " + one + ") = 5\n"
+                + "route(" + one + ", " + other + ", 1) = " + by + "\n");
+        }
         Script.edge("Terms 1", "0 to itself", """
             place() = 0
             way(0, 0) = 0

@@ -377,6 +377,27 @@ public final class EdgesOfStancesTest {
             word(5, 1, 0) = 4
             made(0, 1, 0) = 3
             """);
+        Script.edge("Terms 1", "MADE of two PLACES and a PACT: the first YEAR", Worlds.TWO + """
+            # 79 WORDS, each in a YEAR of its own and each COMES in another one, and FIRM by both at the end
+            tape((y%2=0&y<157)*3+(y=156)*2)
+            text(0) = 1
+            tape((y=158)*5)
+            text(1) = 1
+            aim(0, 10) = 1
+            aim(1, 0) = 1
+            live(50) = 50
+            live(50) = 100
+            live(50) = 150
+            live(8) = 158
+            count(2) = 79
+            stance(0, 0, 155) = 0
+            stance(0, 0, 156) = 3
+            made(0, 1, 0) = NONE
+            live(1) = 159
+            count(2) = 80
+            made(0, 1, 0) = 158
+            made(1, 0, 0) = 158
+            """);
         Script.edge("Promise 15", "MADE.", Worlds.THREE + """
             word(5, 1, 3) = 0
             word(5, 20, 3) = 1

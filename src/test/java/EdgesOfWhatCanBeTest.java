@@ -56,7 +56,13 @@ public final class EdgesOfWhatCanBeTest {
     }
 
     private static void soon() {
-        Script.edge("Promise 22", "SOON.", Worlds.TWO + "soon(1, 1, 0) = 1\nsoon(10, 2, 3) = 5\n");
+        StringBuilder pairs = new StringBuilder(Worlds.SIX);
+        for (int from = 0; from < 6; from++) {
+            for (int to = 0; to < 6; to++) {
+                pairs.append("soon(" + (10 * from + to) + ", 2, 1) = " + (from == to ? "BEYOND" : 1 + 2 * Math.abs(from - to)) + "\n");
+            }
+        }
+        Script.edge("Promise 22", "SOON.", pairs.toString());
         Script.edge("Promise 22", "BEYOND: PLACES (also one twice), n, l.", Worlds.TWO + """
             soon(0, 1, 0) = BEYOND
             soon(11, 1, 0) = BEYOND
@@ -742,6 +748,15 @@ public final class EdgesOfWhatCanBeTest {
             count(2) = 0
             count(8) = 1
             """);
+        // By half in each year: 2 years for each year of the WAY.
+        StringBuilder pairs = new StringBuilder(Worlds.SIX);
+        for (int from = 0; from < 6; from++) {
+            for (int to = 0; to < 6; to++) {
+                pairs.append("goods(" + (10 * from + to) + ", 65536, 50) = "
+                    + (from == to ? "BEYOND" : 65536 >> 2 * Math.abs(from - to)) + "\n");
+            }
+        }
+        Script.edge("Promise 33", "What GOODS worth v (0 to 99999) are worth as they come, by f.", pairs.toString());
         Script.edge("Promise 33", "BEYOND: ft (PLACES, also one twice), v, f.", Worlds.TWO + """
             goods(0, 1, 1) = BEYOND
             goods(11, 1, 1) = BEYOND

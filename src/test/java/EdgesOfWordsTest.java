@@ -218,6 +218,19 @@ public final class EdgesOfWordsTest {
             ofWord(1, 1) = 1
             ofWord(1, 2) = 0
             """);
+        StringBuilder pairsOfSix = new StringBuilder(Worlds.SIX);
+        int sent = 0;
+        for (int from = 0; from < 6; from++) {
+            for (int to = 0; to < 6; to++) {
+                if (from != to) {
+                    pairsOfSix.append("word(0, " + (10 * from + to) + ", 0) = " + sent + "\n");
+                    pairsOfSix.append("ofWord(" + sent + ", 1) = " + from + "\nofWord(" + sent + ", 2) = " + to + "\n");
+                    pairsOfSix.append("ofWord(" + sent + ", 5) = " + Math.abs(from - to) + "\n");
+                    sent++;
+                }
+            }
+        }
+        Script.edge("Promise 8", "A WORD (ft: 10 * from and to): its number.", pairsOfSix.toString());
         Script.edge("Promise 8", "BEYOND: KIND", Worlds.TWO + """
             word(-1, 1, 0) = BEYOND
             word(7, 1, 0) = BEYOND
@@ -432,9 +445,23 @@ public final class EdgesOfWordsTest {
         for (int i = 0; i < 13; i++) {
             thirteen.append("ofWord(" + i + ", 0) = " + i % 7 + "\n");
             thirteen.append("ofWord(" + i + ", 1) = " + i % 2 + "\n");
+            thirteen.append("ofWord(" + i + ", 2) = " + (1 - i % 2) + "\n");
             thirteen.append("ofWord(" + i + ", 3) = " + i % 4 + "\n");
         }
         Script.edge("Promise 12", "WORDS from a SHEET: threes (KIND, ft, PACT), from number 0 on", thirteen.toString());
+        StringBuilder pairs = new StringBuilder(Worlds.SIX + "sheet(0, 8, 3) = 1\nput(0, 2, 3) = 1\n");
+        int number = 0;
+        for (int from = 0; from < 6; from++) {
+            for (int to = 0; to < 6; to++) {
+                pairs.append("put(0, 1, " + (10 * from + to) + ") = 1\nwords(0) = " + (from == to ? 0 : 1) + "\n");
+                if (from != to) {
+                    pairs.append("ofWord(" + number + ", 1) = " + from + "\nofWord(" + number + ", 2) = " + to + "\n");
+                    pairs.append("ofWord(" + number + ", 5) = " + Math.abs(from - to) + "\n");
+                    number++;
+                }
+            }
+        }
+        Script.edge("Promise 12", "threes (KIND, ft, PACT)", pairs.toString());
         Script.edge("Promise 12", "BEYOND: no such SHEET.", """
             sheet(0, 8, 3) = 1
             sheet(3, 8, 3) = 1

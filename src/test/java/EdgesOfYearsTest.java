@@ -93,6 +93,18 @@ public final class EdgesOfYearsTest {
             ofWord(9, 0) = 3
             ofWord(9, 4) = 7
             """);
+        Script.edge("Terms 2", "k KIND of the one of these that COMES latest", Worlds.TWO + """
+            # the only one of all
+            word(4, 10, 0) = 0
+            aim(0, 10) = 1
+            tape(k)
+            text(0) = 1
+            live(1) = 1
+            count(2) = 1
+            live(1) = 2
+            count(2) = 2
+            ofWord(1, 0) = 4
+            """);
         Script.edge("Terms 2", "(9: none), y YEAR", Worlds.TWO + """
             aim(0, 10) = 1
             tape(y)
@@ -345,6 +357,17 @@ public final class EdgesOfYearsTest {
             }
         }
         Script.edge("Terms 2", "it is LOST, if the rest by q is below p", lines.toString());
+        Script.edge("Terms 2", "it is LOST, if the rest by q is below p", Worlds.TWO + """
+            # 12872603 is odd: 0 by 1 all the same
+            loss(11) = 1
+            seed(662824084) = 1
+            word(0, 1, 0) = 0
+            ofWord(0, 5) = -1
+            loss(1) = 11
+            seed(662824084) = -999580867
+            word(0, 1, 0) = 1
+            ofWord(1, 5) = 1
+            """);
         Script.edge("Terms 2", "it is LOST, if the rest by q is below p", Worlds.TWO + """
             # 0 of q loses none, q of q all, by words() and as a YEAR is LIVED, too
             loss(9) = 1

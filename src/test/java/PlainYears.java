@@ -70,6 +70,20 @@ final class PlainYears {
     int[] bits = new int[4];
     long[][] rows = new long[4][];
 
+    PlainYears copy() {
+        PlainYears c = new PlainYears();
+        c.all = all.copy();
+        c.image = image == null ? null : image.copy();
+        c.images = images;
+        c.told = told.clone();
+        c.trace = new ArrayList<>(trace);
+        c.bits = bits.clone();
+        for (int i = 0; i < rows.length; i++) {
+            c.rows[i] = rows[i] == null ? null : rows[i].clone();
+        }
+        return c;
+    }
+
     int error(int e) {
         told[LOW - e]++;
         return e;

@@ -17,6 +17,21 @@ final class Worlds {
         near(1, 2, 1) = 0
         """;
 
+    /** Six PLACES in a row, each one year from the next. */
+    static final String SIX = """
+        place() = 0
+        place() = 1
+        place() = 2
+        place() = 3
+        place() = 4
+        place() = 5
+        near(0, 1, 1) = 0
+        near(1, 2, 1) = 0
+        near(2, 3, 1) = 0
+        near(3, 4, 1) = 0
+        near(4, 5, 1) = 0
+        """;
+
     /** The first 350 YEARS, LIVED on a new object. */
     static final String TO_350 = """
         live(50) = 50
