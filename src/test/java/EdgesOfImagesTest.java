@@ -4,6 +4,8 @@ public final class EdgesOfImagesTest {
 
     public static void main(String[] args) {
         imageOfEach();
+        imageOfAll();
+        imageOfWords();
         imageBut();
         image();
         restore();
@@ -73,6 +75,75 @@ public final class EdgesOfImagesTest {
             law(7, 1, 2) = 0
             minds(0, 0) = 0
             """);
+    }
+
+    /** All that an IMAGE keeps is changed, and is as it was after restore(), which may be done again. */
+    private static void imageOfAll() {
+        String sentence = "All is as the IMAGE has it, which stays: NOW.";
+        String changes = """
+            place() = 4
+            place() = 5
+            near(0, 1, 9) = 2
+            near(1, 2, 9) = 3
+            near(2, 3, 9) = 0
+            near(4, 5, 9) = 0
+            rule(0, 5) = 12
+            rule(1, 9) = 3
+            loss(9) = 13
+            word(1, 10, 2) = 5
+            word(2, 45, 3) = 6
+            lose(3) = 1
+            lose(2) = 1
+            text(5) = -12
+            tape(4+s)
+            text(0) = 1
+            tape(5)
+            text(4) = 1
+            tape(t)
+            text(6) = 1
+            tape(9999)
+            aim(0, -1) = 1
+            aim(4, 51) = 1
+            live(9) = 11
+            pays(0, 9) = 5
+            pays(41, 9) = 0
+            work(9, 9) = 2
+            seed(3) = %d
+            check(1, 0) = 0
+            tell(6) = 1
+            tell(7) = 2
+            """;
+        // There were draws for two WORDS by word(), and in 9 YEARS for those of PLACE 1, which has its AIM still, and 4.
+        int z = zOfRich();
+        for (int i = 0; i < 2 + 9 + 9; i++) {
+            z = z * 1103515245 + 12345;
+        }
+        String changed = changes.formatted(z);
+        Script.alike("Promise 41", sentence, Worlds.RICH + "image() = 2\n",
+            Worlds.RICH + "image() = 2\n" + changed + "restore() = 2\n");
+        Script.alike("Promise 41", "which stays", Worlds.RICH + "image() = 2\n",
+            Worlds.RICH + "image() = 2\n" + changed + "restore() = 2\n" + changed + "restore() = 2\nrestore() = 2\n");
+        // Back to nothing at all, and all of it once more.
+        Script.alike("Promise 40", "is kept as an IMAGE, in place of one ahead", "image() = 1\nimage() = 2\n",
+            "image() = 1\n" + Worlds.SIX + Worlds.works(8) + Worlds.words(9, 0, 4, 54, 3) + "live(9) = 9\nrestore() = 0\nimage() = 2\n");
+        Script.alike("Promise 40", "is kept as an IMAGE, in place of one ahead", Worlds.FULL + "image() = 1\nimage() = 2\n",
+            "image() = 1\n" + Worlds.TWO + Worlds.works(3) + Worlds.words(9, 0, 4, 10, 3) + "tell(9) = 1\nrestore() = 0\n"
+                + Worlds.FULL + "image() = 2\nrestore() = 399\n");
+    }
+
+    private static void imageOfWords() {
+        int[][] due = {
+            {1, 0, 1, 0, 0, 2, 30, 1}, {2, 1, 0, 1, 0, 2, 30, 1}, {5, 1, 2, 0, 2, 5, 12, 2}, {6, 2, 1, 3, 2, 7, 12, 1},
+            {0, 0, 1, 0, 2, -1, 12, 1}
+        };
+        StringBuilder words = new StringBuilder();
+        for (int word = 0; word < due.length; word++) {
+            for (int what = 0; what < 8; what++) {
+                words.append("ofWord(" + word + ", " + what + ") = " + due[word][what] + "\n");
+            }
+        }
+        Script.edge("Promise 41", "All is as the IMAGE has it", Worlds.RICH + "image() = 2\nword(1, 10, 0) = 5\nlose(2) = 1\n"
+            + "restore() = 2\n" + words + "ofWord(5, 0) = BEYOND\nimage() = 3\nrestore() = 2\n" + words);
     }
 
     /** z of Worlds.RICH: 77, and five draws. */

@@ -27,6 +27,18 @@ final class Script {
         run(section + " " + sentence, script);
     }
 
+    /** Runs two scripts as edges: then the objects that they leave must answer all Probes alike. */
+    static void alike(String section, String sentence, String script, String other) {
+        edge(section, sentence, script);
+        edge(section, sentence, other);
+        for (int probe = 0; probe < Probes.MANY; probe++) {
+            List<Step> steps = read(script);
+            List<Step> others = read(other);
+            compare(section + " " + sentence, Probes.ask(probe, after(steps, steps.size())),
+                Probes.ask(probe, after(others, others.size())));
+        }
+    }
+
     /** The sections and sentences of all edges so far. */
     static List<String[]> quotes() {
         return QUOTES;
@@ -34,15 +46,7 @@ final class Script {
 
     /** Runs a script on a new object. */
     static void run(String name, String script) {
-        List<Step> steps = new ArrayList<>();
-        try {
-            for (String line : script.split("\n")) {
-                Step.read(line.strip(), steps);
-            }
-        } catch (IllegalArgumentException e) {
-            fail(name, e.getMessage());
-            return;
-        }
+        List<Step> steps = read(script);
         if (steps.size() > MOST_CALLS) {
             fail(name, "has " + steps.size() + " calls");
         }
@@ -54,6 +58,14 @@ final class Script {
                 checkNothingElse(name, steps, i);
             }
         }
+    }
+
+    private static List<Step> read(String script) {
+        List<Step> steps = new ArrayList<>();
+        for (String line : script.split("\n")) {
+            Step.read(line.strip(), steps);
+        }
+        return steps;
     }
 
     /** Ends the test: with exit code 1 if an answer was not the one that is due. */
@@ -106,14 +118,18 @@ final class Script {
                 // Whatever it answers, none wait then.
                 without.check(0, 0);
             }
-            List<String> answers = Probes.ask(probe, without);
-            List<String> answersWith = Probes.ask(probe, with);
-            for (int i = 0; i < answers.size(); i++) {
-                if (!answers.get(i).equals(answersWith.get(i))) {
-                    fail(name, steps.get(at).text() + " changed " + answers.get(i) + " to " + answersWith.get(i));
-                    break;
-                }
+            compare(name + ": " + steps.get(at).text(), Probes.ask(probe, without), Probes.ask(probe, with));
+        }
+    }
+
+    private static void compare(String name, List<String> answers, List<String> others) {
+        if (!answers.equals(others)) {
+            int i = 0;
+            while (i < answers.size() && i < others.size() && answers.get(i).equals(others.get(i))) {
+                i++;
             }
+            fail(name, "not alike: " + answers.subList(i, Math.min(i + 1, answers.size())) + " and "
+                + others.subList(i, Math.min(i + 1, others.size())));
         }
     }
 
