@@ -15,17 +15,8 @@ import java.util.regex.Pattern;
 
 /** The public face, and those rules of LANGUAGE.md that can be seen from the outside or in the text. */
 public final class LanguageTest {
-    private static final String FACE = """
-        int place(); int near(int, int, int); int way(int, int); int route(int, int, int); int rule(int, int);
-        int loss(int); int word(int, int, int); int ofWord(int, int); int lose(int); int as(int, int); int words(int);
-        int came(int, int, int); int stance(int, int, int); int made(int, int, int); int knows(int, int, int);
-        int feed(long, int); int text(int); int law(int, int, int); int aim(int, int); int live(int);
-        int soon(int, int, int); long odds(int, int, int); int enough(int, int); int pays(int, int); int rest(int);
-        int answer(int, int, int); int work(int, int); int blind(int, int); int edge(int, int); int minds(int, int);
-        long heirs(int, int, int); int goods(int, int, int); int seed(int); int voice(int, int, int); int trace(int);
-        int sheet(int, int, int); int put(int, int, int); int move(int, int, int, int, int); int image();
-        int restore(); int tell(int); int check(int, int); int count(int); int told(int);
-        """;
+    private static final Pattern METHOD = Pattern.compile("    public (int|long) (\\w+)\\((.*)\\);");
+    private static final Pattern ARGUMENT = Pattern.compile("(int|long) \\w+");
     private static final Set<String> WORDS_OUT = Set.of("throw", "throws", "try", "catch", "finally", "synchronized",
         "assert", "volatile", "transient", "native", "protected", "hashCode", "double", "float", "Object", "Thread");
     private static final Set<Class<?>> CONSTANTS = Set.of(int.class, long.class, boolean.class, char.class, String.class,
@@ -61,13 +52,19 @@ public final class LanguageTest {
         }
     }
 
-    private static void face() {
-        Set<String> due = new TreeSet<>();
-        for (String line : FACE.replace("\n", " ").split(";")) {
-            if (!line.isBlank()) {
-                due.add(line.strip());
-            }
+    /** The methods of the document's face, as "int near(int, int, int)". */
+    private static Set<String> documentsFace() throws IOException {
+        Set<String> face = new TreeSet<>();
+        Matcher methods = METHOD.matcher(Files.readString(Path.of("../shared/DOC.md")));
+        while (methods.find()) {
+            String types = ARGUMENT.matcher(methods.group(3)).replaceAll("$1");
+            face.add(methods.group(1) + " " + methods.group(2) + "(" + types + ")");
         }
+        return face;
+    }
+
+    private static void face() throws IOException {
+        Set<String> due = documentsFace();
         Set<String> is = new TreeSet<>();
         for (Method m : NineYears.class.getDeclaredMethods()) {
             if (!Modifier.isPrivate(m.getModifiers())) {
